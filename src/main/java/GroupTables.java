@@ -408,7 +408,7 @@ public final class GroupTables {
         }
 
         private boolean counts(int seat, int other, int set) {
-            return (set >> other & 1) != 0 && hasResult(seat, other);
+            return (set >> other & 1) != 0 && scored[seat][other] != NO_RESULT;
         }
 
         private static int pointsFor(int goalsOfSeat, int goalsOfOther) {
@@ -810,7 +810,7 @@ public final class GroupTables {
             return countFrom(group, seat, places, table, matches.list(group));
         }
 
-        /** Plays the matches below left, and leaves them without a result as they were. */
+        /** Plays the first so many matches, and leaves them without a result as they were. */
         private int countFrom(Group group, int seat, int places, Table table, int left) {
             if (left <= 0) {
                 table.draw(group);

@@ -38,7 +38,7 @@ public final class LanguageTest {
         for (int line = 0; line < lines.length; line++) {
             String text = lines[line];
             String before = text.substring(0, text.length() - text.stripLeading().length());
-            if (start < 0 && text.matches("( {4}| {8})\\S.*\\)[^;=]*(\\{)?") && !text.contains(" class ")) {
+            if (start < 0 && text.matches("( {4}| {8})\\S.*\\)[^;=]*(\\{)?")) {
                 start = line;
                 indent = before;
             } else if (start >= 0 && text.equals(indent + "}")) {

@@ -25,6 +25,7 @@ public final class ModelTest {
     private final GroupTables tables = new GroupTables();
     private final String run;
     private int calls;
+    private int lastTeam;
 
     private ModelTest(int seed) {
         random = new Random(seed);
@@ -70,6 +71,10 @@ public final class ModelTest {
         }
     }
 
+    private int mostlySmall(int most) {
+        return random.nextInt(random.nextInt(most + 1) + 1);
+    }
+
     private int goals() {
         return random.nextInt(mostGoals + 1);
     }
@@ -79,10 +84,10 @@ public final class ModelTest {
         switch (name) {
             case "setResult" -> call(name, team(), mate(), odd(goals()), odd(goals()));
             case "strike", "rule" -> call(name, team(), mate(), 0, 0);
-            case "takeAway" -> call(name, team(), odd(random.nextInt(random.nextInt(21) + 1)), 0, 0);
-            case "setCards" -> call(name, team(), odd(random.nextInt(random.nextInt(51) + 1)), 0, 0);
-            case "setLot" -> call(name, team(), odd(random.nextInt(random.nextInt(100) + 1)), 0, 0);
-            case "setThrough" -> call(name, odd(1 + random.nextInt(2)), odd(random.nextInt(7)), 0, 0);
+            case "takeAway" -> call(name, team(), odd(mostlySmall(20)), 0, 0);
+            case "setCards" -> call(name, team(), odd(mostlySmall(50)), 0, 0);
+            case "setLot" -> call(name, team(), odd(mostlySmall(99)), 0, 0);
+            case "setThrough" -> call(name, odd(1 + random.nextInt(2)), odd(mostlySmall(6)), 0, 0);
             case "addGroup" -> {
                 if (model.groups.size() < mostGroups || random.nextInt(3) == 0) {
                     call(name, odd(3 + random.nextInt(3)), 0, 0, 0);
@@ -93,8 +98,6 @@ public final class ModelTest {
             default -> call(name, team(), 0, 0, 0);
         }
     }
-
-    private int lastTeam;
 
     private int team() {
         lastTeam = odd(random.nextInt(Math.max(1, model.teams())));
@@ -128,8 +131,8 @@ public final class ModelTest {
             return;
         }
         calls++;
-        String what = run + ", call " + calls + ": " + name + "(" + a + ", " + b + ", " + c + ", " + d
-                + ")";
+        String what = run + ", call " + calls + ": " + name
+                + "(" + a + ", " + b + ", " + c + ", " + d + ")";
         String thrown = exceptionDue(name, a, b, c, d);
         String got = Check.outcome(() -> asked(name, a, b, c, d));
         Check.due(what, got, thrown.isEmpty() ? String.valueOf(dueOf(name, a, b, c, d)) : thrown);
@@ -152,7 +155,10 @@ public final class ModelTest {
             case "groups", "teams":
                 return "";
             case "addGroup":
-                return !isIn(a, 3, 5) ? Check.ARGUMENT : model.groups.size() == 6 ? Check.STATE : "";
+                if (!isIn(a, 3, 5)) {
+                    return Check.ARGUMENT;
+                }
+                return model.groups.size() == 6 ? Check.STATE : "";
             case "setThrough":
                 return isIn(a, 1, 2) && isIn(b, 0, 6) ? "" : Check.ARGUMENT;
             case "teamAt":

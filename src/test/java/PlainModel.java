@@ -8,8 +8,8 @@ import java.util.TreeMap;
 
 /**
  * The document once more, in the plainest way and with the Java library, to be compared with the
- * class: sorted buckets for the tables, every number of a way taken apart digit by digit. It knows
- * no wrong arguments but those of {@link #exceptionOf}-like checks in ModelTest.
+ * class: sorted buckets for the tables, every number of a way taken apart digit by digit. It is
+ * asked for nothing wrong: which exceptions are due is told by ModelTest.
  */
 final class PlainModel {
     final List<List<Integer>> groups = new ArrayList<>();

@@ -121,8 +121,10 @@ public final class PromisesTest {
         Check.due("3: difference of 3", tables.difference(3), -20);
         Check.due("3: 0 to 20", tables.setResult(6, 3, 0, 20), 5);
         for (int wrong : new int[] {LEAST, -1, 7, 30, MOST}) {
-            Check.throwsDue("3: team " + wrong, Check.INDEX, () -> tables.setResult(wrong, 0, 0, 0));
-            Check.throwsDue("3: other " + wrong, Check.INDEX, () -> tables.setResult(0, wrong, 0, 0));
+            Check.throwsDue("3: team " + wrong, Check.INDEX,
+                    () -> tables.setResult(wrong, 0, 0, 0));
+            Check.throwsDue("3: other " + wrong, Check.INDEX,
+                    () -> tables.setResult(0, wrong, 0, 0));
             Check.throwsDue("3: both " + wrong, Check.INDEX,
                     () -> tables.setResult(wrong, wrong, 21, 0));
         }
@@ -436,6 +438,10 @@ public final class PromisesTest {
         ruleDue("18: two pairs", tables, 0, 2, 3);
         ruleDue("18: two pairs", tables, 0, 1, 7);
         ruleDue("18: two pairs", tables, 2, 3, 7);
+        tables.setCards(0, 1);
+        orderDue("18: two pairs, cards in the last one", tables, 0, 2, 3, 1, 0);
+        ruleDue("18: two pairs, cards in the last one", tables, 0, 1, 6);
+        tables.setCards(0, 0);
         tables.setResult(2, 1, 2, 1);
         tables.setResult(1, 3, 2, 1);
         tables.setResult(2, 3, 1, 1);
@@ -527,6 +533,12 @@ public final class PromisesTest {
         tables.setResult(6, 7, 3, 0);
         Check.due("20: third then", tables.teamAt(1, 2), 5);
         Check.due("20: points of the other third", tables.thirdPoints(1), 4);
+        GroupTables smallFirst = withGroups(3, 5, 5, 5, 5, 5);
+        tell(smallFirst, 23, 2, 3, 1, 0, 2, 4, 1, 0, 0, 3, 9, 0, 1, 4, 1, 0, 0, 2, 1, 0);
+        tell(smallFirst, 23, 1, 2, 0, 0, 0, 4, 1, 0, 1, 3, 8, 0);
+        // 23 has 9 points, 24 has 7, 25 has 7; of these two 24 has the better difference.
+        Check.due("20: third of the last of six groups", smallFirst.teamAt(5, 2), 25);
+        Check.due("20: the smallest group is the first", smallFirst.thirdPoints(5), 1);
     }
 
     private static void promise21ThirdRank() {
@@ -593,7 +605,8 @@ public final class PromisesTest {
 
     private static void promise22IsThrough() {
         GroupTables tables = withGroups(3, 4, 5);
-        boolean[] two = {true, true, false, true, true, false, false, true, true, false, false, false};
+        boolean[] two =
+            {true, true, false, true, true, false, false, true, true, false, false, false};
         for (int team = 0; team < two.length; team++) {
             Check.due("22: two places, " + team, tables.isThrough(team), two[team]);
         }
@@ -775,7 +788,8 @@ public final class PromisesTest {
         for (int team = 0; team < tables.teams(); team++) {
             state.append(' ').append(tables.points(team)).append(' ').append(tables.goals(team));
             state.append(' ').append(tables.played(team)).append(' ').append(tables.place(team));
-            state.append(' ').append(tables.difference(team)).append(' ').append(tables.badWay(team));
+            state.append(' ').append(tables.difference(team));
+            state.append(' ').append(tables.badWay(team));
         }
         return state.toString();
     }
