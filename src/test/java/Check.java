@@ -1,12 +1,16 @@
+import java.util.HashSet;
+import java.util.Set;
+
 /** Counts checks and tells those that fail; a test's main method ends with {@link #end}. */
 final class Check {
-    static final String NOTHING = "nothing";
     static final String INDEX = "IndexOutOfBoundsException";
     static final String ARGUMENT = "IllegalArgumentException";
     static final String STATE = "IllegalStateException";
 
     private static final int MOST_TOLD = 40;
 
+    private static final Set<String> TITLES = new HashSet<>();
+    private static String title = "";
     private static int checks;
     private static int wrong;
 
@@ -16,6 +20,35 @@ final class Check {
     /** A call that answers with a number. */
     interface Call {
         long answer();
+    }
+
+    /** What a test does. */
+    interface Body {
+        void run();
+    }
+
+    /**
+     * A test of its own, which has to check something; its title names the promise. All titles are
+     * printed by java -Dtitles=all.
+     */
+    static void test(String name, Body body) {
+        if (System.getProperty("titles") != null) {
+            System.out.println(name);
+        }
+        if (!TITLES.add(name)) {
+            tell("two tests are called: " + name);
+        }
+        title = name + " | ";
+        int before = checks;
+        try {
+            body.run();
+        } catch (RuntimeException thrown) {
+            tell("thrown is " + thrown);
+        }
+        if (checks == before) {
+            tell("nothing is checked");
+        }
+        title = "";
     }
 
     static void due(String what, long got, long want) {
@@ -50,7 +83,8 @@ final class Check {
     }
 
     static void end(String test) {
-        System.out.println(test + ": " + checks + " checks, " + wrong + " wrong");
+        String tests = TITLES.isEmpty() ? "" : TITLES.size() + " tests, ";
+        System.out.println(test + ": " + tests + checks + " checks, " + wrong + " wrong");
         if (wrong > 0 || checks == 0) {
             System.exit(1);
         }
@@ -59,7 +93,7 @@ final class Check {
     private static void tell(String text) {
         wrong++;
         if (wrong <= MOST_TOLD) {
-            System.out.println(text);
+            System.out.println(title + text);
         }
     }
 }

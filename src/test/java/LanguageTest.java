@@ -31,7 +31,7 @@ public final class LanguageTest {
         Check.end("LanguageTest");
     }
 
-    /** Methods stay below some sixty lines: from a line that ends a head to the brace that ends it. */
+    /** Methods stay below some sixty lines, from the line that ends a head to the last brace. */
     private static void longMethods(String[] lines) {
         int start = -1;
         String indent = "";

@@ -46,34 +46,6 @@ public final class PromisesTest {
         Check.end("PromisesTest");
     }
 
-    private static GroupTables withGroups(int... sizes) {
-        GroupTables tables = new GroupTables();
-        for (int size : sizes) {
-            tables.addGroup(size);
-        }
-        return tables;
-    }
-
-    /** Tells results of the group that begins with a team: seat, seat, goals, goals, .. */
-    private static void tell(GroupTables tables, int first, int... results) {
-        for (int at = 0; at < results.length; at += 4) {
-            tables.setResult(first + results[at], first + results[at + 1], results[at + 2],
-                    results[at + 3]);
-        }
-    }
-
-    private static void orderDue(String what, GroupTables tables, int group, int... teams) {
-        for (int place = 0; place < teams.length; place++) {
-            Check.due(what + ", team at " + place, tables.teamAt(group, place), teams[place]);
-            Check.due(what + ", place of " + teams[place], tables.place(teams[place]), place);
-        }
-    }
-
-    private static void ruleDue(String what, GroupTables tables, int team, int other, int rule) {
-        Check.due(what + ", rule " + team + " " + other, tables.rule(team, other), rule);
-        Check.due(what + ", rule " + other + " " + team, tables.rule(other, team), rule);
-    }
-
     private static void promise1NewObject() {
         GroupTables tables = new GroupTables();
         Check.due("1: groups", tables.groups(), 0);
@@ -108,7 +80,7 @@ public final class PromisesTest {
     }
 
     private static void promise3SetResult() {
-        GroupTables tables = withGroups(3, 4);
+        GroupTables tables = Build.groups(3, 4);
         Check.due("3: first result", tables.setResult(0, 1, 2, 1), 2);
         Check.due("3: in place of another one", tables.setResult(0, 1, 0, 3), 2);
         Check.due("3: points of 0", tables.points(0), 0);
@@ -144,8 +116,8 @@ public final class PromisesTest {
     }
 
     private static void promise4Strike() {
-        GroupTables tables = withGroups(5, 3);
-        tell(tables, 0, 0, 1, 2, 0, 0, 2, 1, 1, 3, 4, 0, 3);
+        GroupTables tables = Build.groups(5, 3);
+        Build.tell(tables, 0, 0, 1, 2, 0, 0, 2, 1, 1, 3, 4, 0, 3);
         Check.due("4: strike", tables.strike(0, 1), 8);
         Check.due("4: points without it", tables.points(0), 1);
         Check.due("4: goals without it", tables.goals(0), 1);
@@ -165,8 +137,8 @@ public final class PromisesTest {
     }
 
     private static void promise5TakeAway() {
-        GroupTables tables = withGroups(3, 3);
-        tell(tables, 3, 0, 1, 1, 0);
+        GroupTables tables = Build.groups(3, 3);
+        Build.tell(tables, 3, 0, 1, 1, 0);
         Check.due("5: first", tables.takeAway(3, 20), 0);
         Check.due("5: below 0", tables.points(3), -17);
         Check.due("5: set, not added", tables.takeAway(3, 2), 20);
@@ -185,12 +157,12 @@ public final class PromisesTest {
     }
 
     private static void promise6SetCards() {
-        GroupTables tables = withGroups(3, 3);
+        GroupTables tables = Build.groups(3, 3);
         Check.due("6: first", tables.setCards(4, 50), 0);
         Check.due("6: second", tables.setCards(4, 7), 50);
         Check.due("6: back to 0", tables.setCards(4, 0), 7);
         tables.setCards(3, 1);
-        orderDue("6: fewer are better", tables, 1, 4, 5, 3);
+        Build.orderDue("6: fewer are better", tables, 1, 4, 5, 3);
         Check.due("6: points are as before", tables.points(3), 0);
         for (int wrong : new int[] {LEAST, -1, 6, MOST}) {
             Check.throwsDue("6: team " + wrong, Check.INDEX, () -> tables.setCards(wrong, 1));
@@ -203,14 +175,14 @@ public final class PromisesTest {
     }
 
     private static void promise7SetLot() {
-        GroupTables tables = withGroups(3, 4);
+        GroupTables tables = Build.groups(3, 4);
         Check.due("7: at first its number", tables.setLot(5, 99), 5);
         Check.due("7: second", tables.setLot(5, 0), 99);
-        orderDue("7: a lower one is better", tables, 1, 5, 3, 4, 6);
+        Build.orderDue("7: a lower one is better", tables, 1, 5, 3, 4, 6);
         Check.due("7: third", tables.setLot(5, 3), 0);
-        orderDue("7: of the same lot the lower number", tables, 1, 3, 5, 4, 6);
+        Build.orderDue("7: of the same lot the lower number", tables, 1, 3, 5, 4, 6);
         Check.due("7: of team 0", tables.setLot(0, 2), 0);
-        orderDue("7: of the same lot the lower number, group 0", tables, 0, 1, 0, 2);
+        Build.orderDue("7: of the same lot the lower number, group 0", tables, 0, 1, 0, 2);
         for (int wrong : new int[] {LEAST, -1, 7, MOST}) {
             Check.throwsDue("7: team " + wrong, Check.INDEX, () -> tables.setLot(wrong, 1));
             Check.throwsDue("7: team and lot", Check.INDEX, () -> tables.setLot(wrong, 100));
@@ -222,7 +194,7 @@ public final class PromisesTest {
     }
 
     private static void promise8SetThrough() {
-        GroupTables tables = withGroups(3);
+        GroupTables tables = Build.groups(3);
         Check.due("8: at first 2 places", tables.isThrough(1), true);
         Check.due("8: at first no thirds", tables.isThrough(2), false);
         tables.setThrough(1, 0);
@@ -262,15 +234,15 @@ public final class PromisesTest {
     }
 
     private static void promise10Teams() {
-        GroupTables tables = withGroups(4, 5);
+        GroupTables tables = Build.groups(4, 5);
         Check.due("10: teams", tables.teams(), 9);
         tables.addGroup(3);
         Check.due("10: teams then", tables.teams(), 12);
-        Check.due("10: the most teams", withGroups(5, 5, 5, 5, 5, 5).teams(), 30);
+        Check.due("10: the most teams", Build.groups(5, 5, 5, 5, 5, 5).teams(), 30);
     }
 
     private static void promise11GroupOf() {
-        GroupTables tables = withGroups(3, 5, 4);
+        GroupTables tables = Build.groups(3, 5, 4);
         int[] groups = {0, 0, 0, 1, 1, 1, 1, 1, 2, 2, 2, 2};
         for (int team = 0; team < groups.length; team++) {
             Check.due("11: group of " + team, tables.groupOf(team), groups[team]);
@@ -278,14 +250,14 @@ public final class PromisesTest {
         for (int wrong : new int[] {LEAST, -1, 12, 30, MOST}) {
             Check.throwsDue("11: team " + wrong, Check.INDEX, () -> tables.groupOf(wrong));
         }
-        GroupTables most = withGroups(5, 5, 5, 5, 5, 5);
+        GroupTables most = Build.groups(5, 5, 5, 5, 5, 5);
         Check.due("11: group of the last team", most.groupOf(29), 5);
         Check.throwsDue("11: behind the last team", Check.INDEX, () -> most.groupOf(30));
     }
 
     private static void promise12Played() {
-        GroupTables tables = withGroups(3, 5);
-        tell(tables, 3, 0, 1, 0, 0, 0, 2, 1, 0, 4, 0, 3, 3);
+        GroupTables tables = Build.groups(3, 5);
+        Build.tell(tables, 3, 0, 1, 0, 0, 0, 2, 1, 0, 4, 0, 3, 3);
         Check.due("12: three", tables.played(3), 3);
         Check.due("12: one", tables.played(7), 1);
         Check.due("12: none", tables.played(6), 0);
@@ -298,8 +270,8 @@ public final class PromisesTest {
     }
 
     private static void promise13Points() {
-        GroupTables tables = withGroups(3, 4);
-        tell(tables, 3, 0, 1, 2, 1, 0, 2, 1, 1, 0, 3, 0, 4, 1, 2, 0, 0);
+        GroupTables tables = Build.groups(3, 4);
+        Build.tell(tables, 3, 0, 1, 2, 1, 0, 2, 1, 1, 0, 3, 0, 4, 1, 2, 0, 0);
         Check.due("13: a win, a draw, a loss", tables.points(3), 4);
         Check.due("13: a loss and a draw", tables.points(4), 1);
         Check.due("13: two draws", tables.points(5), 2);
@@ -313,8 +285,8 @@ public final class PromisesTest {
     }
 
     private static void promise14Difference() {
-        GroupTables tables = withGroups(3, 3);
-        tell(tables, 3, 0, 1, 5, 2, 2, 0, 4, 0);
+        GroupTables tables = Build.groups(3, 3);
+        Build.tell(tables, 3, 0, 1, 5, 2, 2, 0, 4, 0);
         Check.due("14: of both matches", tables.difference(3), -1);
         Check.due("14: of a loss", tables.difference(4), -3);
         Check.due("14: of a win", tables.difference(5), 4);
@@ -327,8 +299,8 @@ public final class PromisesTest {
     }
 
     private static void promise15Goals() {
-        GroupTables tables = withGroups(3, 5);
-        tell(tables, 3, 0, 1, 20, 20, 0, 2, 20, 0, 0, 3, 20, 19, 0, 4, 20, 1);
+        GroupTables tables = Build.groups(3, 5);
+        Build.tell(tables, 3, 0, 1, 20, 20, 0, 2, 20, 0, 0, 3, 20, 19, 0, 4, 20, 1);
         Check.due("15: the most", tables.goals(3), 80);
         Check.due("15: of one match", tables.goals(4), 20);
         Check.due("15: none", tables.goals(5), 0);
@@ -339,17 +311,18 @@ public final class PromisesTest {
     }
 
     private static void promise16Place() {
-        GroupTables tables = withGroups(3, 4);
-        orderDue("16: by lots alone", tables, 1, 3, 4, 5, 6);
+        GroupTables tables = Build.groups(3, 4);
+        Build.orderDue("16: by lots alone", tables, 1, 3, 4, 5, 6);
         // 6 beats all; 4 beats 3, 3 beats 5 and 5 beats 4, so that these have 3 points each.
-        tell(tables, 3, 0, 1, 0, 1, 0, 2, 5, 0, 1, 2, 0, 1, 3, 0, 9, 0, 3, 1, 2, 0, 3, 2, 1, 0);
+        Build.tell(tables, 3, 0, 1, 0, 1, 0, 2, 5, 0, 1, 2, 0, 1);
+        Build.tell(tables, 3, 3, 0, 9, 0, 3, 1, 2, 0, 3, 2, 1, 0);
         // Over all matches 4 has the best difference of the three, among them 3 has.
-        orderDue("16: points, then the matches of the tied", tables, 1, 6, 3, 4, 5);
+        Build.orderDue("16: points, then the matches of the tied", tables, 1, 6, 3, 4, 5);
         tables.setResult(4, 6, 1, 0);
         // 4 and 6 have 6 points each: 4 won their match, though 6 has the better difference.
-        orderDue("16: the match of two tied before the difference", tables, 1, 4, 6, 3, 5);
+        Build.orderDue("16: the match of two tied before the difference", tables, 1, 4, 6, 3, 5);
         tables.takeAway(4, 3);
-        orderDue("16: after points are taken away", tables, 1, 6, 3, 4, 5);
+        Build.orderDue("16: after points are taken away", tables, 1, 6, 3, 4, 5);
         Check.due("16: in another group", tables.place(2), 2);
         for (int wrong : new int[] {LEAST, -1, 7, MOST}) {
             Check.throwsDue("16: team " + wrong, Check.INDEX, () -> tables.place(wrong));
@@ -358,24 +331,25 @@ public final class PromisesTest {
 
     /** Tied teams whose own matches are all alike go by all matches, cards and lots. */
     private static void promise16PlaceOverAllMatches() {
-        GroupTables tables = withGroups(4);
-        tell(tables, 0, 0, 1, 1, 1, 0, 2, 1, 1, 1, 2, 1, 1, 0, 3, 1, 0, 1, 3, 3, 1, 2, 3, 3, 2);
-        orderDue("16: difference, then goals", tables, 0, 1, 2, 0, 3);
+        GroupTables tables = Build.groups(4);
+        Build.tell(tables, 0, 0, 1, 1, 1, 0, 2, 1, 1, 1, 2, 1, 1);
+        Build.tell(tables, 0, 0, 3, 1, 0, 1, 3, 3, 1, 2, 3, 3, 2);
+        Build.orderDue("16: difference, then goals", tables, 0, 1, 2, 0, 3);
         tables.setResult(2, 3, 3, 1);
         tables.setCards(1, 1);
-        orderDue("16: then cards", tables, 0, 2, 1, 0, 3);
+        Build.orderDue("16: then cards", tables, 0, 2, 1, 0, 3);
         tables.setCards(2, 1);
         tables.setLot(1, 50);
-        orderDue("16: then lots", tables, 0, 2, 1, 0, 3);
+        Build.orderDue("16: then lots", tables, 0, 2, 1, 0, 3);
         tables.setLot(2, 50);
-        orderDue("16: then numbers", tables, 0, 1, 2, 0, 3);
+        Build.orderDue("16: then numbers", tables, 0, 1, 2, 0, 3);
     }
 
     private static void promise17TeamAt() {
-        GroupTables tables = withGroups(3, 5);
-        tell(tables, 3, 4, 0, 1, 0, 3, 0, 1, 1);
-        orderDue("17: all places", tables, 1, 7, 6, 3, 4, 5);
-        orderDue("17: of group 0", tables, 0, 0, 1, 2);
+        GroupTables tables = Build.groups(3, 5);
+        Build.tell(tables, 3, 4, 0, 1, 0, 3, 0, 1, 1);
+        Build.orderDue("17: all places", tables, 1, 7, 6, 3, 4, 5);
+        Build.orderDue("17: of group 0", tables, 0, 0, 1, 2);
         for (int wrong : new int[] {LEAST, -1, 2, 6, MOST}) {
             Check.throwsDue("17: group " + wrong, Check.INDEX, () -> tables.teamAt(wrong, 0));
         }
@@ -387,32 +361,32 @@ public final class PromisesTest {
     }
 
     private static void promise18Rule() {
-        GroupTables tables = withGroups(3, 4);
-        ruleDue("18: lots", tables, 3, 6, 7);
+        GroupTables tables = Build.groups(3, 4);
+        Build.ruleDue("18: lots", tables, 3, 6, 7);
         tables.setCards(3, 1);
-        ruleDue("18: cards", tables, 3, 6, 6);
+        Build.ruleDue("18: cards", tables, 3, 6, 6);
         // A ring: 3 beats 4, 4 beats 5, 5 beats 3; all beat 6 by other scores.
-        tell(tables, 3, 0, 1, 1, 0, 1, 2, 1, 0, 2, 0, 1, 0);
-        tell(tables, 3, 0, 3, 1, 0, 1, 3, 2, 1, 2, 3, 4, 2);
-        ruleDue("18: points", tables, 3, 6, 0);
-        ruleDue("18: difference of all", tables, 3, 5, 4);
-        ruleDue("18: goals of all", tables, 3, 4, 5);
-        orderDue("18: by them", tables, 1, 5, 4, 3, 6);
+        Build.tell(tables, 3, 0, 1, 1, 0, 1, 2, 1, 0, 2, 0, 1, 0);
+        Build.tell(tables, 3, 0, 3, 1, 0, 1, 3, 2, 1, 2, 3, 4, 2);
+        Build.ruleDue("18: points", tables, 3, 6, 0);
+        Build.ruleDue("18: difference of all", tables, 3, 5, 4);
+        Build.ruleDue("18: goals of all", tables, 3, 4, 5);
+        Build.orderDue("18: by them", tables, 1, 5, 4, 3, 6);
         tables.setResult(3, 4, 3, 2);
         // Among the three 3 and 4 have 3 goals each, 5 has one; of 3 and 4 alone 3 won.
-        ruleDue("18: goals of the tied", tables, 3, 5, 3);
-        ruleDue("18: goals of the tied", tables, 4, 5, 3);
-        ruleDue("18: the match of those still alike", tables, 3, 4, 1);
-        orderDue("18: by goals of the tied", tables, 1, 3, 4, 5, 6);
+        Build.ruleDue("18: goals of the tied", tables, 3, 5, 3);
+        Build.ruleDue("18: goals of the tied", tables, 4, 5, 3);
+        Build.ruleDue("18: the match of those still alike", tables, 3, 4, 1);
+        Build.orderDue("18: by goals of the tied", tables, 1, 3, 4, 5, 6);
         tables.setResult(3, 4, 3, 1);
-        ruleDue("18: difference of the tied", tables, 3, 4, 2);
-        ruleDue("18: difference of the tied", tables, 4, 5, 2);
-        orderDue("18: by difference of the tied", tables, 1, 3, 5, 4, 6);
+        Build.ruleDue("18: difference of the tied", tables, 3, 4, 2);
+        Build.ruleDue("18: difference of the tied", tables, 4, 5, 2);
+        Build.orderDue("18: by difference of the tied", tables, 1, 3, 5, 4, 6);
         tables.setResult(3, 5, 1, 0);
         tables.takeAway(3, 3);
         // 3 has 9 - 3 points, 4 has 6, 5 has 3: 3 won against 4.
-        ruleDue("18: points of the tied", tables, 3, 4, 1);
-        orderDue("18: by points of the tied", tables, 1, 3, 4, 5, 6);
+        Build.ruleDue("18: points of the tied", tables, 3, 4, 1);
+        Build.orderDue("18: by points of the tied", tables, 1, 3, 4, 5, 6);
         for (int wrong : new int[] {LEAST, -1, 7, 30, MOST}) {
             Check.throwsDue("18: team " + wrong, Check.INDEX, () -> tables.rule(wrong, 0));
             Check.throwsDue("18: other " + wrong, Check.INDEX, () -> tables.rule(0, wrong));
@@ -423,24 +397,25 @@ public final class PromisesTest {
 
     /** Of four tied teams three stay alike, and are ordered by the matches of these three alone. */
     private static void promise18RuleAmongFewer() {
-        GroupTables tables = withGroups(4);
+        GroupTables tables = Build.groups(4);
         // All have 4 points, all goals are even but those of 0 and 1 in the match against 3.
-        tell(tables, 0, 0, 1, 1, 1, 2, 3, 1, 1, 0, 2, 1, 0, 1, 3, 1, 0, 2, 1, 1, 0, 3, 0, 1, 0);
+        Build.tell(tables, 0, 0, 1, 1, 1, 2, 3, 1, 1, 0, 2, 1, 0);
+        Build.tell(tables, 0, 1, 3, 1, 0, 2, 1, 1, 0, 3, 0, 1, 0);
         for (int team = 0; team < 4; team++) {
             Check.due("18: tied points", tables.points(team), 4);
         }
         // Among all four each has 4 points, difference 0 and 2 goals: alike, so lots.
-        orderDue("18: all alike", tables, 0, 0, 1, 2, 3);
-        ruleDue("18: all alike", tables, 0, 3, 7);
+        Build.orderDue("18: all alike", tables, 0, 0, 1, 2, 3);
+        Build.ruleDue("18: all alike", tables, 0, 3, 7);
         tables.setResult(2, 3, 2, 2);
         // 2 and 3 have more goals; 0 and 1 drew and are alike, so are 2 and 3: lots.
-        orderDue("18: two pairs", tables, 0, 2, 3, 0, 1);
-        ruleDue("18: two pairs", tables, 0, 2, 3);
-        ruleDue("18: two pairs", tables, 0, 1, 7);
-        ruleDue("18: two pairs", tables, 2, 3, 7);
+        Build.orderDue("18: two pairs", tables, 0, 2, 3, 0, 1);
+        Build.ruleDue("18: two pairs", tables, 0, 2, 3);
+        Build.ruleDue("18: two pairs", tables, 0, 1, 7);
+        Build.ruleDue("18: two pairs", tables, 2, 3, 7);
         tables.setCards(0, 1);
-        orderDue("18: two pairs, cards in the last one", tables, 0, 2, 3, 1, 0);
-        ruleDue("18: two pairs, cards in the last one", tables, 0, 1, 6);
+        Build.orderDue("18: two pairs, cards in the last one", tables, 0, 2, 3, 1, 0);
+        Build.ruleDue("18: two pairs, cards in the last one", tables, 0, 1, 6);
         tables.setCards(0, 0);
         tables.setResult(2, 1, 2, 1);
         tables.setResult(1, 3, 2, 1);
@@ -448,53 +423,53 @@ public final class PromisesTest {
         tables.setResult(0, 2, 2, 1);
         tables.setResult(3, 0, 2, 1);
         // Goals: 0 has 4, 1 has 4, 2 has 4, 3 has 4; all alike again.
-        orderDue("18: all alike again", tables, 0, 0, 1, 2, 3);
+        Build.orderDue("18: all alike again", tables, 0, 0, 1, 2, 3);
         tables.setResult(0, 1, 3, 3);
         tables.setResult(2, 1, 3, 2);
         // Goals: 0 has 6, 1 has 7, 2 has 5, 3 has 4.
-        orderDue("18: by goals", tables, 0, 1, 0, 2, 3);
+        Build.orderDue("18: by goals", tables, 0, 1, 0, 2, 3);
         tables.setResult(2, 3, 2, 2);
         // Goals: 0 has 6, 1 has 7, 2 has 6, 3 has 5: of 0 and 2 alone 0 won.
-        orderDue("18: again by the match of two", tables, 0, 1, 0, 2, 3);
-        ruleDue("18: again by the match of two", tables, 0, 2, 1);
-        ruleDue("18: by goals of four", tables, 0, 1, 3);
-        ruleDue("18: by goals of four", tables, 2, 3, 3);
+        Build.orderDue("18: again by the match of two", tables, 0, 1, 0, 2, 3);
+        Build.ruleDue("18: again by the match of two", tables, 0, 2, 1);
+        Build.ruleDue("18: by goals of four", tables, 0, 1, 3);
+        Build.ruleDue("18: by goals of four", tables, 2, 3, 3);
         tables.setResult(0, 2, 1, 2);
         tables.setResult(1, 0, 2, 3);
         tables.setResult(2, 1, 2, 3);
         tables.setResult(3, 0, 2, 0);
         // Points: 0 has 3, 1 has 6, 2 has 4, 3 has 4: of 2 and 3 alone a draw, so the difference.
-        ruleDue("18: difference behind a draw", tables, 2, 3, 4);
-        orderDue("18: difference behind a draw", tables, 0, 1, 3, 2, 0);
+        Build.ruleDue("18: difference behind a draw", tables, 2, 3, 4);
+        Build.orderDue("18: difference behind a draw", tables, 0, 1, 3, 2, 0);
     }
 
     /** Matches without a result count nothing among the tied, and nothing is taken away there. */
     private static void promise18RuleWithMissingMatches() {
-        GroupTables tables = withGroups(5);
-        tell(tables, 0, 0, 1, 1, 0, 2, 3, 0, 2, 4, 0, 1, 1);
+        GroupTables tables = Build.groups(5);
+        Build.tell(tables, 0, 0, 1, 1, 0, 2, 3, 0, 2, 4, 0, 1, 1);
         // 0 has 4, 1 has 0, 2 has 0, 3 has 3, 4 has 1 points.
-        orderDue("18: missing matches", tables, 0, 0, 3, 4, 1, 2);
-        ruleDue("18: 1 and 2 have not met", tables, 1, 2, 4);
+        Build.orderDue("18: missing matches", tables, 0, 0, 3, 4, 1, 2);
+        Build.ruleDue("18: 1 and 2 have not met", tables, 1, 2, 4);
         tables.takeAway(0, 1);
         // 0 and 3 have 3 points and have not met: the differences are 1 and 2.
-        orderDue("18: 0 and 3 have not met", tables, 0, 3, 0, 4, 1, 2);
-        ruleDue("18: 0 and 3 have not met", tables, 0, 3, 4);
+        Build.orderDue("18: 0 and 3 have not met", tables, 0, 3, 0, 4, 1, 2);
+        Build.ruleDue("18: 0 and 3 have not met", tables, 0, 3, 4);
         tables.takeAway(0, 4);
         // 0, 1 and 2 have 0 points; among them 0 has 3, since nothing is taken away there.
-        orderDue("18: nothing taken away among the tied", tables, 0, 3, 4, 0, 2, 1);
-        ruleDue("18: nothing taken away among the tied", tables, 0, 1, 1);
-        ruleDue("18: nothing taken away among the tied", tables, 0, 2, 1);
-        ruleDue("18: 2 has played none of the tied", tables, 1, 2, 2);
+        Build.orderDue("18: nothing taken away among the tied", tables, 0, 3, 4, 0, 2, 1);
+        Build.ruleDue("18: nothing taken away among the tied", tables, 0, 1, 1);
+        Build.ruleDue("18: nothing taken away among the tied", tables, 0, 2, 1);
+        Build.ruleDue("18: 2 has played none of the tied", tables, 1, 2, 2);
     }
 
     private static void promise19MatchesLeft() {
-        GroupTables tables = withGroups(3, 4, 5);
+        GroupTables tables = Build.groups(3, 4, 5);
         Check.due("19: of three", tables.matchesLeft(0), 3);
         Check.due("19: of four", tables.matchesLeft(1), 6);
         Check.due("19: of five", tables.matchesLeft(2), 10);
-        tell(tables, 3, 0, 1, 0, 0, 2, 3, 0, 0);
+        Build.tell(tables, 3, 0, 1, 0, 0, 2, 3, 0, 0);
         Check.due("19: two less", tables.matchesLeft(1), 4);
-        tell(tables, 0, 0, 1, 0, 0, 0, 2, 0, 0, 1, 2, 0, 0);
+        Build.tell(tables, 0, 0, 1, 0, 0, 0, 2, 0, 0, 1, 2, 0, 0);
         Check.due("19: none", tables.matchesLeft(0), 0);
         tables.strike(2, 1);
         Check.due("19: one again", tables.matchesLeft(0), 1);
@@ -504,10 +479,11 @@ public final class PromisesTest {
     }
 
     private static void promise20ThirdPoints() {
-        GroupTables tables = withGroups(5);
+        GroupTables tables = Build.groups(5);
         // 0 wins all, 1 all but that, 2 wins against 3 and 4, 3 draws with 4.
-        tell(tables, 0, 0, 1, 1, 0, 0, 2, 1, 0, 0, 3, 1, 0, 0, 4, 1, 0);
-        tell(tables, 0, 1, 2, 1, 0, 1, 3, 1, 0, 1, 4, 1, 0, 2, 3, 1, 0, 2, 4, 1, 0, 3, 4, 0, 0);
+        Build.tell(tables, 0, 0, 1, 1, 0, 0, 2, 1, 0, 0, 3, 1, 0, 0, 4, 1, 0);
+        Build.tell(tables, 0, 1, 2, 1, 0, 1, 3, 1, 0, 1, 4, 1, 0);
+        Build.tell(tables, 0, 2, 3, 1, 0, 2, 4, 1, 0, 3, 4, 0, 0);
         Check.due("20: the only group counts whole", tables.thirdPoints(0), 6);
         tables.addGroup(4);
         Check.due("20: without the last one", tables.thirdPoints(0), 3);
@@ -525,24 +501,24 @@ public final class PromisesTest {
     }
 
     private static void promise20ThirdPointsOfLikeGroups() {
-        GroupTables tables = withGroups(4, 4);
-        tell(tables, 4, 0, 1, 1, 0, 0, 2, 1, 0, 1, 2, 2, 2, 1, 3, 2, 0, 2, 3, 1, 0);
+        GroupTables tables = Build.groups(4, 4);
+        Build.tell(tables, 4, 0, 1, 1, 0, 0, 2, 1, 0, 1, 2, 2, 2, 1, 3, 2, 0, 2, 3, 1, 0);
         // 4 has 6, 5 has 4, 6 has 4, 7 has 0: 6 is third with all of its matches.
         Check.due("20: third", tables.teamAt(1, 2), 6);
         Check.due("20: of groups of the same size all counts", tables.thirdPoints(1), 4);
         tables.setResult(6, 7, 3, 0);
         Check.due("20: third then", tables.teamAt(1, 2), 5);
         Check.due("20: points of the other third", tables.thirdPoints(1), 4);
-        GroupTables smallFirst = withGroups(3, 5, 5, 5, 5, 5);
-        tell(smallFirst, 23, 2, 3, 1, 0, 2, 4, 1, 0, 0, 3, 9, 0, 1, 4, 1, 0, 0, 2, 1, 0);
-        tell(smallFirst, 23, 1, 2, 0, 0, 0, 4, 1, 0, 1, 3, 8, 0);
+        GroupTables smallFirst = Build.groups(3, 5, 5, 5, 5, 5);
+        Build.tell(smallFirst, 23, 2, 3, 1, 0, 2, 4, 1, 0, 0, 3, 9, 0, 1, 4, 1, 0, 0, 2, 1, 0);
+        Build.tell(smallFirst, 23, 1, 2, 0, 0, 0, 4, 1, 0, 1, 3, 8, 0);
         // 23 has 9 points, 24 has 7, 25 has 7; of these two 24 has the better difference.
         Check.due("20: third of the last of six groups", smallFirst.teamAt(5, 2), 25);
         Check.due("20: the smallest group is the first", smallFirst.thirdPoints(5), 1);
     }
 
     private static void promise21ThirdRank() {
-        GroupTables tables = withGroups(3, 3, 3);
+        GroupTables tables = Build.groups(3, 3, 3);
         Check.due("21: by numbers", tables.thirdRank(0), 0);
         Check.due("21: by numbers", tables.thirdRank(2), 2);
         tables.setLot(2, 50);
@@ -551,8 +527,8 @@ public final class PromisesTest {
         Check.due("21: by lots", tables.thirdRank(2), 0);
         Check.due("21: same lots, by numbers", tables.thirdRank(0), 1);
         Check.due("21: same lots, by numbers", tables.thirdRank(1), 2);
-        tell(tables, 0, 0, 2, 1, 0, 0, 1, 1, 0);
-        tell(tables, 3, 0, 2, 2, 1, 0, 1, 1, 0);
+        Build.tell(tables, 0, 0, 2, 1, 0, 0, 1, 1, 0);
+        Build.tell(tables, 3, 0, 2, 2, 1, 0, 1, 1, 0);
         // The thirds are 2, 5 and 8; 8 has no match and difference 0.
         Check.due("21: third of 0", tables.teamAt(0, 2), 2);
         Check.due("21: third of 1", tables.teamAt(1, 2), 4);
@@ -565,8 +541,8 @@ public final class PromisesTest {
         // 2 and 4 have difference -1 and no goal; lots 50 and 4.
         Check.due("21: behind by difference, before by lots", tables.thirdRank(1), 1);
         Check.due("21: behind by difference and lots", tables.thirdRank(0), 2);
-        tell(tables, 0, 1, 2, 0, 0);
-        tell(tables, 3, 1, 2, 0, 0);
+        Build.tell(tables, 0, 1, 2, 0, 0);
+        Build.tell(tables, 3, 1, 2, 0, 0);
         // Thirds: 2 with 1 point, -1 and 0 goals; 4 with 1 point, -1 and 0 goals; lots 50 and 4.
         Check.due("21: by points before group 2", tables.thirdRank(2), 2);
         Check.due("21: by lots behind", tables.thirdRank(0), 1);
@@ -589,9 +565,10 @@ public final class PromisesTest {
 
     /** Of a larger group only the matches against its first teams count, for goals too. */
     private static void promise21ThirdRankByCountingMatches() {
-        GroupTables tables = withGroups(4, 3);
-        tell(tables, 0, 0, 1, 1, 0, 0, 2, 2, 0, 0, 3, 1, 0, 1, 2, 2, 0, 1, 3, 1, 0, 2, 3, 20, 0);
-        tell(tables, 4, 0, 1, 1, 0, 0, 2, 2, 0, 1, 2, 2, 1);
+        GroupTables tables = Build.groups(4, 3);
+        Build.tell(tables, 0, 0, 1, 1, 0, 0, 2, 2, 0, 0, 3, 1, 0);
+        Build.tell(tables, 0, 1, 2, 2, 0, 1, 3, 1, 0, 2, 3, 20, 0);
+        Build.tell(tables, 4, 0, 1, 1, 0, 0, 2, 2, 0, 1, 2, 2, 1);
         Check.due("21: third of four", tables.teamAt(0, 2), 2);
         Check.due("21: its points", tables.thirdPoints(0), 0);
         Check.due("21: behind by the difference that counts", tables.thirdRank(0), 1);
@@ -604,7 +581,7 @@ public final class PromisesTest {
     }
 
     private static void promise22IsThrough() {
-        GroupTables tables = withGroups(3, 4, 5);
+        GroupTables tables = Build.groups(3, 4, 5);
         boolean[] two =
             {true, true, false, true, true, false, false, true, true, false, false, false};
         for (int team = 0; team < two.length; team++) {
@@ -636,13 +613,13 @@ public final class PromisesTest {
     }
 
     private static void promise23Ways() {
-        GroupTables tables = withGroups(3, 4, 5);
+        GroupTables tables = Build.groups(3, 4, 5);
         Check.due("23: of three", tables.ways(0), 27);
         Check.due("23: of four", tables.ways(1), 729);
         Check.due("23: of five", tables.ways(2), 59049);
-        tell(tables, 0, 0, 1, 0, 0, 0, 2, 0, 0);
+        Build.tell(tables, 0, 0, 1, 0, 0, 0, 2, 0, 0);
         Check.due("23: one match", tables.ways(0), 3);
-        tell(tables, 0, 1, 2, 0, 0);
+        Build.tell(tables, 0, 1, 2, 0, 0);
         Check.due("23: no match", tables.ways(0), 1);
         for (int wrong : new int[] {LEAST, -1, 3, 6, MOST}) {
             Check.throwsDue("23: group " + wrong, Check.INDEX, () -> tables.ways(wrong));
@@ -650,13 +627,13 @@ public final class PromisesTest {
     }
 
     private static void promise24WaysSafe() {
-        GroupTables tables = withGroups(4, 3);
+        GroupTables tables = Build.groups(4, 3);
         tables.setThrough(1, 0);
         // With two wins in all 3 ways of the other match; with a win and a draw, in either order,
         // unless the one that it drew with wins that match and has 4 points too.
         Check.due("24: of three, one place", tables.waysSafe(4), 3 + 2 + 2);
         tables.setThrough(2, 0);
-        tell(tables, 4, 0, 1, 1, 0, 0, 2, 1, 0);
+        Build.tell(tables, 4, 0, 1, 1, 0, 0, 2, 1, 0);
         Check.due("24: first in all", tables.waysSafe(4), 3);
         Check.due("24: second if it wins", tables.waysSafe(5), 1);
         Check.due("24: second if it wins", tables.waysSafe(6), 1);
@@ -675,8 +652,8 @@ public final class PromisesTest {
     }
 
     private static void promise25WaysLost() {
-        GroupTables tables = withGroups(3);
-        tell(tables, 0, 0, 1, 1, 0, 0, 2, 1, 0);
+        GroupTables tables = Build.groups(3);
+        Build.tell(tables, 0, 0, 1, 1, 0, 0, 2, 1, 0);
         Check.due("25: never", tables.waysLost(0), 0);
         Check.due("25: if it loses", tables.waysLost(1), 1);
         Check.due("25: if it loses", tables.waysLost(2), 1);
@@ -701,7 +678,7 @@ public final class PromisesTest {
     }
 
     private static void promise26BadWay() {
-        GroupTables tables = withGroups(3, 5);
+        GroupTables tables = Build.groups(3, 5);
         // The matches are 0: 0-1, 1: 0-2, 2: 1-2. In the way 2 + 3 * 1 team 0 loses to 1 and draws
         // with 2, and 1 beats 2: 1 has 6 points, 2 has 1 as 0 has.
         Check.due("26: of three", tables.badWay(0), 5);
@@ -709,7 +686,7 @@ public final class PromisesTest {
         tables.setThrough(1, 0);
         Check.due("26: of three, one place", tables.badWay(0), 1);
         Check.due("26: of three, one place", tables.badWay(1), 0);
-        tell(tables, 0, 0, 1, 1, 0, 0, 2, 1, 0);
+        Build.tell(tables, 0, 0, 1, 1, 0, 0, 2, 1, 0);
         Check.due("26: safe in all ways", tables.badWay(0), -1);
         tables.takeAway(0, 3);
         // The only match is 1-2 now, with the number 0.
@@ -731,8 +708,8 @@ public final class PromisesTest {
     }
 
     private static void promise27ScoresThrough() {
-        GroupTables tables = withGroups(3, 4);
-        tell(tables, 0, 0, 1, 1, 0, 0, 2, 1, 0);
+        GroupTables tables = Build.groups(3, 4);
+        Build.tell(tables, 0, 0, 1, 1, 0, 0, 2, 1, 0);
         // Left is 1-2: 1 is second if it wins (3 scores) or draws (3, by its lot).
         Check.due("27: first in all", tables.scoresThrough(0), 9);
         Check.due("27: second by a win or its lot", tables.scoresThrough(1), 6);
@@ -746,9 +723,9 @@ public final class PromisesTest {
         Check.due("27: no match left", tables.scoresThrough(0), 1);
         Check.due("27: no match left, not through", tables.scoresThrough(2), 0);
         Check.throwsDue("27: six are left", Check.STATE, () -> tables.scoresThrough(3));
-        tell(tables, 3, 0, 1, 1, 0, 0, 2, 1, 0);
+        Build.tell(tables, 3, 0, 1, 1, 0, 0, 2, 1, 0);
         Check.throwsDue("27: four are left", Check.STATE, () -> tables.scoresThrough(3));
-        tell(tables, 3, 0, 3, 1, 0);
+        Build.tell(tables, 3, 0, 3, 1, 0);
         Check.due("27: three are left", tables.scoresThrough(3), 729);
         Check.due("27: three are left, one place", tables.scoresThrough(4), 0);
         tables.setThrough(2, 0);
@@ -765,8 +742,8 @@ public final class PromisesTest {
     }
 
     private static void thrownCallsChangeNothing() {
-        GroupTables tables = withGroups(3, 4);
-        tell(tables, 3, 0, 1, 2, 1);
+        GroupTables tables = Build.groups(3, 4);
+        Build.tell(tables, 3, 0, 1, 2, 1);
         String before = state(tables);
         Check.outcome(() -> tables.addGroup(6));
         Check.outcome(() -> tables.setResult(3, 4, 5, 21));
