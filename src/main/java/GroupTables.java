@@ -20,9 +20,6 @@ public final class GroupTables {
     private static final int MOST_LEFT_FOR_SCORES = 3;
     private static final int OUTCOMES = 3;
 
-    /** How many ways there are with 0, 1, 2 .. matches left. */
-    private static final int[] WAYS = {1, 3, 9, 27, 81, 243, 729, 2187, 6561, 19683, 59049};
-
     private final Group[] groupRow = new Group[MOST_GROUPS];
     private final Table table = new Table();
     private final Thirds bestThirds = new Thirds();
@@ -194,13 +191,13 @@ public final class GroupTables {
 
     public int ways(int group) throws IndexOutOfBoundsException {
         needGroup(group);
-        return WAYS[groupRow[group].left()];
+        return waysOf(groupRow[group].left());
     }
 
     public int waysSafe(int team) throws IndexOutOfBoundsException {
         Group group = groupWith(team);
         int unsafe = outlook.countPassed(group, group.seatOf(team), leadingPlaces, 0);
-        return WAYS[group.left()] - unsafe;
+        return waysOf(group.left()) - unsafe;
     }
 
     public int waysLost(int team) throws IndexOutOfBoundsException {
@@ -218,7 +215,7 @@ public final class GroupTables {
         if (group.left() > MOST_LEFT_FOR_SCORES) {
             throw new IllegalStateException("more than 3 matches are left");
         }
-        return scores.through(group, group.seatOf(team), leadingPlaces, table);
+        return scores.countThrough(group, group.seatOf(team), leadingPlaces, table);
     }
 
     // ---- what the calls have in common
@@ -259,6 +256,14 @@ public final class GroupTables {
             throw new IllegalArgumentException("not two teams of one group");
         }
         return groupRow[number];
+    }
+
+    private static int waysOf(int matches) {
+        int ways = 1;
+        for (int match = 0; match < matches; match++) {
+            ways *= OUTCOMES;
+        }
+        return ways;
     }
 
     /** What is known of the teams of a group and of their matches. */
@@ -357,7 +362,6 @@ public final class GroupTables {
             return count;
         }
 
-        /** The points of a team, less those that were taken away from it. */
         int pointsOf(int seat) {
             return pointsFrom(seat, everyone()) - taken[seat];
         }
@@ -366,7 +370,9 @@ public final class GroupTables {
             return taken[seat];
         }
 
-        /** The points of the matches of a team against the teams of a set. */
+        // Sums go over a set of opponents: the whole table, the table of the tied and the thirds
+        // differ in nothing but the matches that count.
+
         int pointsFrom(int seat, int set) {
             int sum = 0;
             for (int other = 0; other < teamsHere; other++) {
@@ -397,12 +403,13 @@ public final class GroupTables {
             return sum;
         }
 
-        /** Greater for fewer card points. */
+        // Marks are better the greater they are, so what is better if lower is turned round.
+
         int cardMark(int seat) {
             return -cards[seat];
         }
 
-        /** Greater for a better lot; no two teams, of whatever groups, have the same. */
+        /** Takes the number in, so that no two teams, of whatever groups, have the same mark. */
         int lotMark(int seat) {
             return -(lots[seat] * MOST_GROUPS * MOST_SIZE + firstTeam + seat);
         }
@@ -498,7 +505,6 @@ public final class GroupTables {
             return rules[seat][other];
         }
 
-        /** The set of the teams at the places from one on to before another one. */
         int setOf(int start, int end) {
             int set = 0;
             for (int place = start; place < end; place++) {
@@ -508,8 +514,8 @@ public final class GroupTables {
         }
 
         /**
-         * Orders the tied teams at the places from start on to before end. Each deeper call has
-         * fewer teams, so that the depth stays below the size of a group.
+         * Orders the tied teams at the places from start on to before end. The depth stays below
+         * the size of a group, since each deeper call has fewer teams.
          */
         private void settle(Group group, int start, int end, int depth) {
             if (end - start < 2 || depth >= MOST_SIZE) {
@@ -552,7 +558,6 @@ public final class GroupTables {
             }
         }
 
-        /** Sorts the places from start on to before end, and notes what tells their teams apart. */
         private void arrange(int start, int end, int columns, int firstRule) {
             for (int place = start + 1; place < end; place++) {
                 int to = place;
@@ -610,7 +615,6 @@ public final class GroupTables {
             return marks.at(number, 0);
         }
 
-        /** How many thirds of other groups are better. */
         int betterThan(int number, int groupCount) {
             int count = 0;
             for (int other = 0; other < groupCount; other++) {
@@ -637,12 +641,11 @@ public final class GroupTables {
         private final int[] lowerSeats = new int[MOST_MATCHES];
         private final int[] upperSeats = new int[MOST_MATCHES];
 
-        /** Lists them by their numbers; returns how many there are. */
+        /** Lists them in the order of their numbers, and answers how many there are. */
         int list(Group group) {
             return listOwnLast(group, NOBODY);
         }
 
-        /** Lists them with those of one team behind the others; returns how many there are. */
         int listOwnLast(Group group, int seat) {
             int others = add(group, seat, false, 0);
             return add(group, seat, true, others);
@@ -694,14 +697,12 @@ public final class GroupTables {
         private int places;
         private int margin;
 
-        /** Counts the ways in which the team is passed. */
         int countPassed(Group group, int seat, int leadingPlaces, int marginToPass) {
             open(group, seat, leadingPlaces, marginToPass);
             // The order is free here; with its own matches known first most ways are cut short.
             return waysPassed(matches.listOwnLast(group, seat));
         }
 
-        /** The lowest number of a way in which the team is passed, or NONE. */
         int firstPassed(Group group, int seat, int leadingPlaces, int marginToPass) {
             open(group, seat, leadingPlaces, marginToPass);
             // The match with the highest number weighs most in a way's number: it is played first.
@@ -722,7 +723,7 @@ public final class GroupTables {
         /** Counts the ways of the first so many matches in which the team is passed. */
         private int waysPassed(int left) {
             if (isPassedAnyhow()) {
-                return WAYS[left];
+                return waysOf(left);
             }
             if (left <= 0 || !canBePassed()) {
                 return 0;
@@ -750,7 +751,7 @@ public final class GroupTables {
                 int way = lowestPassed(left - 1);
                 takeBack(left - 1, outcome);
                 if (way != NONE) {
-                    lowest = outcome * WAYS[left - 1] + way;
+                    lowest = outcome * waysOf(left - 1) + way;
                 }
             }
             return lowest;
@@ -805,12 +806,14 @@ public final class GroupTables {
 
         private final LeftMatches matches = new LeftMatches();
 
-        /** Counts the scores with which a team comes to one of the first places. */
-        int through(Group group, int seat, int places, Table table) {
+        int countThrough(Group group, int seat, int places, Table table) {
             return countFrom(group, seat, places, table, matches.list(group));
         }
 
-        /** Plays the first so many matches, and leaves them without a result as they were. */
+        /**
+         * Plays the first so many matches in the group itself, so that its table is drawn as ever,
+         * and strikes them again, since a question changes nothing.
+         */
         private int countFrom(Group group, int seat, int places, Table table, int left) {
             if (left <= 0) {
                 table.draw(group);

@@ -1,11 +1,18 @@
+import java.io.IOException;
 import java.lang.reflect.Constructor;
 import java.lang.reflect.Field;
 import java.lang.reflect.Method;
 import java.lang.reflect.Modifier;
+import java.nio.file.Files;
+import java.nio.file.Path;
+import java.util.List;
 import java.util.Set;
 import java.util.TreeSet;
 
-/** The class has the face of the document, and no more (rule 1 of LANGUAGE.md). */
+/**
+ * The class has the face of the document, and no more (rule 1 of LANGUAGE.md), with the headings of
+ * the Terms.
+ */
 public final class FaceTest {
     private static final String[] FACE = {
         "int addGroup(int) IllegalArgumentException IllegalStateException",
@@ -37,10 +44,18 @@ public final class FaceTest {
         "int scoresThrough(int) IndexOutOfBoundsException IllegalStateException",
     };
 
+    /** What the interface says ahead of some calls, and the first of these. */
+    private static final String[][] HEADINGS = {
+        {"---- groups, results, rules", "addGroup"},
+        {"---- teams; nothing from here on changes anything", "groups"},
+        {"---- tables", "place"},
+        {"---- ways", "ways"},
+    };
+
     private FaceTest() {
     }
 
-    public static void main(String[] args) {
+    public static void main(String[] args) throws IOException {
         Class<?> face = GroupTables.class;
         Check.due("public and final", face.getModifiers(), Modifier.PUBLIC | Modifier.FINAL);
         Constructor<?>[] constructors = face.getDeclaredConstructors();
@@ -59,7 +74,43 @@ public final class FaceTest {
             Check.due(inside + " is not open", Modifier.isPublic(set) || Modifier.isProtected(set),
                     false);
         }
+        facesOfDocument();
+        headings();
         Check.end("FaceTest");
+    }
+
+    /** The heads stand in the source as the document has them, in its order, with their names. */
+    private static void facesOfDocument() throws IOException {
+        String document = Files.readString(Path.of("..", "shared", "DOC.md"));
+        int start = document.indexOf("public final class GroupTables {");
+        Check.due("the document has a face", start > 0, true);
+        List<String> lines = document.substring(start, document.indexOf("```", start)).lines()
+                .map(String::strip).filter(line -> line.endsWith(";")).toList();
+        Check.due("calls of the document", lines.size(), FACE.length + 1);
+        String source = source();
+        int from = 0;
+        for (String line : lines) {
+            int at = source.indexOf(line.replace(";", " {"), from);
+            Check.due("'" + line + "' stands behind those before", at >= from, true);
+            from = Math.max(from, at);
+        }
+    }
+
+    private static void headings() throws IOException {
+        String source = source();
+        for (String[] heading : HEADINGS) {
+            String wanted = "// " + heading[0] + " public [a-z]+ " + heading[1] + "\\(.*";
+            int at = source.indexOf("// " + heading[0] + " ");
+            Check.due("heading " + heading[0], at >= 0, true);
+            Check.due(heading[0] + " stands ahead of " + heading[1],
+                    source.substring(Math.max(0, at)).matches(wanted), true);
+        }
+    }
+
+    /** The source, all on one line. */
+    private static String source() throws IOException {
+        Path file = Path.of("src", "main", "java", "GroupTables.java");
+        return Files.readString(file).replaceAll("\\s+", " ");
     }
 
     /** The methods that are not private, and a private one that bears the name of a public one. */
